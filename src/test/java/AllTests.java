@@ -1,0 +1,19 @@
+/** Runs every test of the project; ends with exit code 1 if an answer was not the one that is due. */
+public final class AllTests {
+    private AllTests() {
+    }
+
+    public static void main(String[] args) {
+        MatchTest.run();
+        TextTest.run();
+        StateTest.run();
+        RowTest.run();
+        HistoryTest.run();
+        OracleTest.run();
+        AnyCallTest.run();
+        System.out.println(Check.passed() + " passed, " + Check.failed() + " failed");
+        if (Check.failed() > 0) {
+            System.exit(1);
+        }
+    }
+}
