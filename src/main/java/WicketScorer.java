@@ -12,6 +12,9 @@ public final class WicketScorer {
     // Every step takes a call of its own, and only the first 512 calls of an object count.
     private static final int MOST_STEPS = 512;
 
+    // So many commands from before can still be undone when a new one is carried out.
+    private static final int STILL_UNDOABLE = 7;
+
     private static final int HIT = 0;
     private static final int WIDE = 1;
     private static final int NO_BALL = 2;
@@ -540,7 +543,7 @@ public final class WicketScorer {
             if (commands >= 0 && commands < ends.length) {
                 ends[commands] = stepCount;
                 commands++;
-                undoable = Math.min(undoable, 7) + 1;
+                undoable = Math.min(undoable, STILL_UNDOABLE) + 1;
             }
         }
 
@@ -796,8 +799,8 @@ public final class WicketScorer {
         }
 
         private int value() {
-            int left = BALLS_OF_OVER * overs.limit - total(BALLS);
-            return (10 - total(WICKETS)) * (240 * left - left * left);
+            int left = BALLS_OF_OVER * overs.limit - totals.get(0, BALLS);
+            return (10 - totals.get(0, WICKETS)) * (240 * left - left * left);
         }
 
         // ---- bowlers
@@ -1173,11 +1176,11 @@ public final class WicketScorer {
         // ---- target and outcome
 
         int target() {
-            int runs = all[0].total(Innings.RUNS);
+            int runs = at(0).total(Innings.RUNS);
             if (hasResources()) {
-                return revisedTarget(runs, all[0].resources, all[1].resources);
+                return revisedTarget(runs, at(0).resources, at(1).resources);
             }
-            return runs + all[2].total(Innings.RUNS) - all[1].total(Innings.RUNS) + 1;
+            return runs + at(2).total(Innings.RUNS) - at(1).total(Innings.RUNS) + 1;
         }
 
         private static int revisedTarget(long runs, long before, long after) {

@@ -9,6 +9,7 @@ public final class AllTests {
         StateTest.run();
         RowTest.run();
         HistoryTest.run();
+        TamperTest.run();
         OracleTest.run();
         AnyCallTest.run();
         System.out.println(Check.passed() + " passed, " + Check.failed() + " failed");

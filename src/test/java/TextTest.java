@@ -87,6 +87,9 @@ final class TextTest {
         WicketScorer y = Scorers.played(20, 1, "@a2n2b4l4w4");
         Check.due("no fours", 0, () -> y.batter(0, 0, 2));
         Check.due("no sixes", 0, () -> y.batter(0, 0, 3));
+        WicketScorer z = Scorers.played(20, 1, "@a.wn");
+        Check.due("no fours without runs", 0, () -> z.batter(0, 0, 2));
+        Check.due("no sixes without runs", 0, () -> z.batter(0, 0, 3));
     }
 
     private static void wickets() {
