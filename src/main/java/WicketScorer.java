@@ -347,7 +347,6 @@ public final class WicketScorer {
             throw new IllegalStateException("nothing to restore");
         }
         log.copy(saved);
-        log.undoable = 0;
         match.follow(log);
         return log.commands;
     }
@@ -554,6 +553,7 @@ public final class WicketScorer {
             stepCount = last >= 0 && last < ends.length ? ends[last] : 0;
         }
 
+        /** Takes over the commands of another log, none of which can be undone. */
         void copy(Log other) {
             start(other.overs, other.inningsEach, other.first);
             for (int i = 0; i < other.stepCount; i++) {
@@ -561,7 +561,6 @@ public final class WicketScorer {
             }
             System.arraycopy(other.ends, 0, ends, 0, ends.length);
             commands = other.commands;
-            undoable = other.undoable;
         }
     }
 

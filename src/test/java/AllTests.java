@@ -9,6 +9,17 @@ public final class AllTests {
         StateTest.run();
         RowTest.run();
         HistoryTest.run();
+        MatchEdges.run();
+        BallEdges.run();
+        WicketEdges.run();
+        BatterEdges.run();
+        OverEdges.run();
+        TargetEdges.run();
+        TextEdges.run();
+        CardEdges.run();
+        RowEdges.run();
+        HistoryEdges.run();
+        UnchangedTest.run();
         TamperTest.run();
         OracleTest.run();
         AnyCallTest.run();

@@ -1,3 +1,5 @@
+import java.util.function.IntUnaryOperator;
+
 /** Counts the answers that are due and those that are not. */
 final class Check {
     interface Call {
@@ -22,6 +24,21 @@ final class Check {
 
     static void refuses(String what, Class<?> exception, Call call) {
         due(what, exception.getSimpleName(), call);
+    }
+
+    /** A row of numbers that one method tells, the number of each being its argument. */
+    static void row(String what, int[] want, IntUnaryOperator numbers) {
+        for (int at = 0; at < want.length; at++) {
+            int number = at;
+            due(what + ", " + number, want[number], () -> numbers.applyAsInt(number));
+        }
+    }
+
+    /** A call that throws IllegalStateException and keeps this reason, which was not kept before. */
+    static void reasoned(String what, int reason, WicketScorer x, Call call) {
+        due(what + ", reason before", true, () -> x.reason() != reason);
+        refuses(what, IllegalStateException.class, call);
+        due(what + ", reason", reason, x::reason);
     }
 
     /** The answer of a call, or the simple name of the class of what it throws. */
