@@ -20,6 +20,8 @@ public final class AllTests {
         RowEdges.run();
         HistoryEdges.run();
         UnchangedTest.run();
+        ShortTextTest.run();
+        ReadmeTest.run();
         TamperTest.run();
         OracleTest.run();
         AnyCallTest.run();
